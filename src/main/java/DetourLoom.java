@@ -680,7 +680,14 @@ public final class DetourLoom {
 
         void find(Roads roads, int crossings, boolean openOnly) {
             clear();
-            layRoads(roads, openOnly);
+            for (int road = 0; road < roads.count; road++) {
+                int there = roads.one[road] * MOST_CROSSINGS + roads.other[road];
+                int length = roads.lengthNow(road);
+                if (length < sums[there] && (!openOnly || roads.closed[road] == 0)) {
+                    sums[there] = length;
+                    sums[roads.other[road] * MOST_CROSSINGS + roads.one[road]] = length;
+                }
+            }
             for (int over = 0; over < crossings; over++) {
                 goOver(over, crossings);
             }
@@ -690,17 +697,6 @@ public final class DetourLoom {
             for (int one = 0; one < MOST_CROSSINGS; one++) {
                 for (int other = 0; other < MOST_CROSSINGS; other++) {
                     sums[one * MOST_CROSSINGS + other] = one == other ? 0 : NO_WAY;
-                }
-            }
-        }
-
-        private void layRoads(Roads roads, boolean openOnly) {
-            for (int road = 0; road < roads.count; road++) {
-                int there = roads.one[road] * MOST_CROSSINGS + roads.other[road];
-                int length = roads.lengthNow(road);
-                if (length < sums[there] && (!openOnly || roads.closed[road] == 0)) {
-                    sums[there] = length;
-                    sums[roads.other[road] * MOST_CROSSINGS + roads.one[road]] = length;
                 }
             }
         }

@@ -131,6 +131,16 @@ public final class ForesightTest {
         DetourLoom late = wornBeforeOthers();
         late.pass(2);
         check.due("32 too late", late.bestToMend(), -1);
+        DetourLoom turned = Looms.withCrossings(3);
+        turned.addRoad(2, 1, 3, 0);
+        turned.addRoad(1, 0, 5, 0);
+        turned.addTourist(0, 2);
+        Looms.addTourists(turned, 5, 1, 2);
+        check.due("32 all would wait for it", turned.bestToMend(), -1);
+        turned.pass(1);
+        check.due("32 an hour's wait less for the first one", turned.bestToMend(), 0);
+        turned.mend(0, 4);
+        check.due("32 with a knot alone", turned.frayedIn(24), 1);
     }
 
     private void promise32None() {

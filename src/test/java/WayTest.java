@@ -83,6 +83,12 @@ public final class WayTest {
     }
 
     private void promises21And22OverManyCrossings() {
+        DetourLoom round = Looms.withCrossings(3);
+        round.addRoad(0, 1, 9, 0);
+        round.addRoad(0, 2, 1, 0);
+        round.addRoad(1, 2, 1, 0);
+        check.due("21 over the last crossing", round.openDistance(0, 1), 2);
+        check.due("22 over the last crossing", round.distance(1, 0), 2);
         DetourLoom loom = Looms.row(9, 9, 9, 9, 9, 9, 9, 9, 9);
         check.due("21 from end to end", loom.openDistance(0, 9), 81);
         check.due("22 from end to end", loom.distance(9, 0), 81);
