@@ -1,3 +1,6 @@
+import java.util.function.Consumer;
+import java.util.function.Supplier;
+
 /** Counts and prints the answers that are not as due. */
 final class Check {
     interface Call {
@@ -5,11 +8,17 @@ final class Check {
     }
 
     private final String name;
+    private String sentence = "";
     private int asked;
     private int wrong;
 
     Check(String name) {
         this.name = name;
+    }
+
+    /** What follows is checked for these words of the document, which stand at this place of it. */
+    void sentence(String place, String words) {
+        sentence = place + " \"" + words + "\": ";
     }
 
     void due(String what, long got, long want) {
@@ -38,11 +47,43 @@ final class Check {
         tell(loom.digest() == before, what + " changed something");
     }
 
+    /**
+     * The call throws exactly this kind, and the loom answers and goes on as one that never got the
+     * call. Each look is at looms of its own, for a look at a full one takes some 400 calls.
+     */
+    void refused(String what, Supplier<DetourLoom> made, Class<? extends RuntimeException> kind,
+            Consumer<DetourLoom> call) {
+        for (int later = 0; later < 3; later++) {
+            DetourLoom loom = made.get();
+            Class<?> got = thrownBy(loom, call);
+            tell(got == kind, what + " threw " + got + ", due is " + kind);
+            String then = Looms.goOn(loom, later) + Looms.answers(loom);
+            DetourLoom left = made.get();
+            String want = Looms.goOn(left, later) + Looms.answers(left);
+            tell(then.equals(want), what + " changed something, as Looms.goOn " + later + " shows");
+        }
+    }
+
+    /** The call is taken: it throws nothing. */
+    void taken(String what, DetourLoom loom, Consumer<DetourLoom> call) {
+        Class<?> got = thrownBy(loom, call);
+        tell(got == null, what + " threw " + got + ", due is none");
+    }
+
+    private static Class<?> thrownBy(DetourLoom loom, Consumer<DetourLoom> call) {
+        try {
+            call.accept(loom);
+            return null;
+        } catch (RuntimeException e) {
+            return e.getClass();
+        }
+    }
+
     void tell(boolean right, String line) {
         asked++;
         if (!right) {
             wrong++;
-            System.out.println(name + ": " + line);
+            System.out.println(name + ": " + sentence + line);
         }
     }
 

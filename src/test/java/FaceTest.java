@@ -80,11 +80,14 @@ public final class FaceTest {
 
     private void nothingElseIsSeen(Class<?> c) {
         boolean whole = c == DetourLoom.class;
+        int held = 0;
         for (Field f : c.getDeclaredFields()) {
             int is = f.getModifiers();
+            held += Modifier.isStatic(is) ? 0 : 1;
             check.tell(!whole || Modifier.isPrivate(is), f + " can be seen");
             check.tell(!Modifier.isStatic(is) || Modifier.isFinal(is), f + " is static and not final");
         }
+        check.tell(held <= 20, c + " has " + held + " fields");
         for (Method m : c.getDeclaredMethods()) {
             boolean open = Modifier.isPublic(m.getModifiers());
             check.tell(!whole || open || Modifier.isPrivate(m.getModifiers()), m + " can be seen");
@@ -101,7 +104,7 @@ public final class FaceTest {
 
     /** All calls of a run share one room, so the dearest one must not fill it. */
     private void callsMakeNoObjects() {
-        DetourLoom loom = full();
+        DetourLoom loom = Looms.full();
         loom.digest();
         long before = bytesMade();
         for (int i = 0; i < 400; i++) {
@@ -110,17 +113,6 @@ public final class FaceTest {
         long made = bytesMade() - before;
         // One object a call would be 6,400 bytes; the measuring itself makes some.
         check.tell(made < 4000, "400 digests made " + made + " bytes");
-    }
-
-    private static DetourLoom full() {
-        DetourLoom loom = Looms.row(9, 8, 7, 6, 5, 4, 3, 2, 1);
-        for (int i = 0; i < 11; i++) {
-            loom.addRoad(i % 10, (i * 3 + 2) % 10 == i % 10 ? (i + 1) % 10 : (i * 3 + 2) % 10, 9 - i % 9, i % 4);
-        }
-        for (int i = 0; i < 12; i++) {
-            loom.addTourist(i % 10, (i + 5) % 10);
-        }
-        return loom;
     }
 
     private static long bytesMade() {
